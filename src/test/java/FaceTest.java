@@ -1,0 +1,43 @@
+import java.lang.reflect.Constructor;
+import java.lang.reflect.Field;
+import java.lang.reflect.Method;
+import java.lang.reflect.Modifier;
+import java.util.TreeSet;
+
+/** The public face: the document's members and no other that can be seen from outside. */
+public final class FaceTest {
+    public static void main(String[] args) {
+        Class<?> type = TwinLoader.class;
+        Bench.due("public and final", type.getModifiers(), Modifier.PUBLIC | Modifier.FINAL);
+        TreeSet<String> seen = new TreeSet<>();
+        for (Field each : type.getDeclaredFields()) {
+            addVisible(seen, each.getModifiers(), each.toString());
+        }
+        for (Constructor<?> each : type.getDeclaredConstructors()) {
+            addVisible(seen, each.getModifiers(), each.toString());
+        }
+        for (Method each : type.getDeclaredMethods()) {
+            addVisible(seen, each.getModifiers(), each.toString());
+        }
+        Bench.due("the face", String.join("; ", seen), String.join("; ", new TreeSet<>(java.util.List.of(
+                "public static final int TwinLoader.NONE",
+                "public TwinLoader()",
+                "public int TwinLoader.frame(int,int)",
+                "public int TwinLoader.peek(int)",
+                "public boolean TwinLoader.take()",
+                "public void TwinLoader.tick()",
+                "public void TwinLoader.cut(int)",
+                "public void TwinLoader.restart()",
+                "public int TwinLoader.flash(int)",
+                "public int TwinLoader.word(int)",
+                "public int TwinLoader.state(int)"))));
+        Bench.due("NONE", TwinLoader.NONE, -1);
+        Bench.end();
+    }
+
+    private static void addVisible(TreeSet<String> seen, int modifiers, String text) {
+        if (!Modifier.isPrivate(modifiers)) {
+            seen.add(text);
+        }
+    }
+}
