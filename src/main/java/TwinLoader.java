@@ -19,7 +19,7 @@ public final class TwinLoader {
     private static final int END_DOWNLOAD = 55;
     private static final int PRESENT = 62;
 
-    // The first byte of an answer.
+    // An answer begins with the service and POSITIVE, or with NEGATIVE.
     private static final int POSITIVE = 64;
     private static final int NEGATIVE = 127;
 
@@ -42,7 +42,12 @@ public final class TwinLoader {
     private static final int DONE = 0;
     private static final int TORN = -1;
 
-    // The frames that steer an answer, or the one who sends a request.
+    // The frames of a request or an answer that has several.
+    private static final int FIRST_FRAME = 16;
+    private static final int NEXT_FRAME = 32;
+    private static final int FRAME_NUMBERS = 16;
+
+    // The frames that steer the one who sends those.
     private static final int GO_ON = 48;
     private static final int WAIT = 49;
     private static final int DROP = 50;
@@ -115,8 +120,8 @@ public final class TwinLoader {
 
     /** A tick. */
     public void tick() {
-        receiver.grow();
-        sender.grow();
+        receiver.age();
+        sender.age();
         quietTicks++;
         if (session == LOADING_SESSION && quietTicks >= QUIET_LIMIT
                 && receiver.wanted == 0 && !sender.waits) {
@@ -648,11 +653,8 @@ public final class TwinLoader {
         private static final int ASKS_MORE = 1;
         private static final int COMPLETE = 2;
 
-        private static final int FIRST = 16;
         private static final int SHORTEST = 8;
         private static final int LONGEST = 34;
-        private static final int NEXT = 32;
-        private static final int NUMBERS = 16;
 
         private final int[] bytes;
         private int received;
@@ -674,7 +676,7 @@ public final class TwinLoader {
             wanted = 0;
         }
 
-        void grow() {
+        void age() {
             if (wanted == 0) {
                 return;
             }
@@ -693,24 +695,24 @@ public final class TwinLoader {
                 return COMPLETE;
             }
             int length = byteOf(front, rest, 1);
-            if (kind == FIRST && length >= SHORTEST && length <= LONGEST) {
+            if (kind == FIRST_FRAME && length >= SHORTEST && length <= LONGEST) {
                 begin(length);
                 add(front, rest, 2);
                 return ASKS_MORE;
             }
-            if (kind >= NEXT && kind < NEXT + NUMBERS && wanted > 0) {
+            if (kind >= NEXT_FRAME && kind < NEXT_FRAME + FRAME_NUMBERS && wanted > 0) {
                 return acceptNext(front, rest);
             }
             return NOTHING;
         }
 
         private int acceptNext(int front, int rest) {
-            if (byteOf(front, rest, 0) - NEXT != number) {
+            if (byteOf(front, rest, 0) - NEXT_FRAME != number) {
                 drop();
                 return NOTHING;
             }
             boolean second = number % 2 == 0;
-            number = (number + 1) % NUMBERS;
+            number = (number + 1) % FRAME_NUMBERS;
             add(front, rest, 1);
             if (wanted == 0) {
                 return COMPLETE;
@@ -739,10 +741,6 @@ public final class TwinLoader {
     private static final class Sender {
         private static final int LONGEST = 2 + BYTES_READ;
         private static final int ONE_FRAME = 7;
-        private static final int FIRST = 16;
-        private static final int FIRST_BYTES = 6;
-        private static final int NEXT = 32;
-        private static final int NUMBERS = 16;
 
         private final Row row;
         private final int[] bytes;
@@ -778,7 +776,7 @@ public final class TwinLoader {
                 putFrom(1);
                 return;
             }
-            draft[0] = FIRST;
+            draft[0] = FIRST_FRAME;
             draft[1] = count;
             putFrom(2);
             number = 1;
@@ -800,8 +798,8 @@ public final class TwinLoader {
         void goOn(int frames) {
             int most = frames == 0 ? LONGEST : frames;
             for (int k = 0; k < most && sent < count; k++) {
-                draft[0] = NEXT + number;
-                number = (number + 1) % NUMBERS;
+                draft[0] = NEXT_FRAME + number;
+                number = (number + 1) % FRAME_NUMBERS;
                 putFrom(1);
             }
             waits = sent < count;
@@ -824,7 +822,7 @@ public final class TwinLoader {
             waits = false;
         }
 
-        void grow() {
+        void age() {
             if (!waits) {
                 return;
             }

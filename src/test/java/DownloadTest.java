@@ -59,19 +59,19 @@ public final class DownloadTest {
     }
 
     private static void blocksOutOfOrder() {
+        for (int number = 0; number < 256; number++) {
+            Bench b = unlocked();
+            b.askDue("116 8", 52, 1, 10);
+            b.askDue(number == 1 ? "118 1" : "127 54 115", 54, number, 0);
+            b = unlocked();
+            b.askDue("116 8", 52, 1, 10);
+            b.askDue("118 1", 54, 1, 77);
+            boolean good = number == 1 || number == 2;
+            b.askDue(good ? "118 " + number : "127 54 115", 54, number, 0, 0, 0, 0, 0, 0, 0, 0);
+        }
         Bench b = unlocked();
         b.askDue("116 8", 52, 1, 10);
-        for (int number = 0; number < 256; number++) {
-            if (number != 1) {
-                b.askDue("127 54 115", 54, number, 0);
-            }
-        }
         b.askDue("118 1", 54, 1, 77);
-        for (int number = 0; number < 256; number++) {
-            if (number != 1 && number != 2) {
-                b.askDue("127 54 115", 54, number, 0, 0, 0, 0, 0, 0, 0, 0);
-            }
-        }
         b.askDue("127 54 115", 54, 3, 0, 0, 0, 0, 0, 0, 0, 0);
         Bench.due("bytes to come", b.unit.state(3), 9);
         Bench.due("the image", b.flash(48, 50), "77 255");
@@ -155,6 +155,8 @@ public final class DownloadTest {
         b.askDue("116 8", 52, 1, 3);
         b.askDue("127 54 114", 54, 1, 112, 12, 255);
         b.askDue("119", 55);
+        b.askDue("116 8", 52, 1, 3);
+        b.askDue("127 54 114", 54, 1, 113, 12, 85);
     }
 
     private static void blocksAndTheCheckedSlot() {

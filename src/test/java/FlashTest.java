@@ -23,7 +23,7 @@ public final class FlashTest {
         Bench b = new Bench();
         b.unlock();
         b.load(1, 128, 64, 200, 255, 0, 1);
-        for (int at = 0; at <= 92; at++) {
+        for (int at = 28; at <= 92; at++) {
             long want = 0;
             for (int k = 0; k < 4; k++) {
                 want = want * 256 + b.unit.flash(at + k);

@@ -96,6 +96,8 @@ public final class FrameTest {
         Bench.due("number 2, the last", b.frame(34), 2);
         b.taken();
         Bench.due("the answer", b.taken(), "3 127 200 17 0 0 0 0");
+        b.frame(16, 8, 200);
+        Bench.due("a frame behind a fuller one", b.taken(), "48 2 0 0 0 0 0 0");
     }
 
     private static void wrongNumbers() {

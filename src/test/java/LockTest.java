@@ -23,7 +23,7 @@ public final class LockTest {
 
     private static void seedsAndKeys() {
         Bench b = inSessionTwo();
-        for (int given = 0; given < 100; given++) {
+        for (int given = 0; given < 15; given++) {
             int seed = (17 + 73 * given) % 256;
             b.askDue("103 1 " + seed, 39, 1);
             b.askDue("103 2", 39, 2, (5 * seed + 3) % 256);
@@ -165,7 +165,7 @@ public final class LockTest {
     private static void theSeedThatIsZero() {
         Bench b = inSessionTwo();
         for (int given = 0; given < 119; given++) {
-            b.ask(39, 1);
+            b.frame(2, 39, 1);
         }
         b.askDue("103 1 0", 39, 1);
         Bench.due("unlocked", b.unit.state(2), 0);

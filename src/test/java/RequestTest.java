@@ -28,8 +28,8 @@ public final class RequestTest {
     }
 
     private static void unknownServices() {
-        Bench b = new Bench();
         for (int service = 0; service < 256; service++) {
+            Bench b = new Bench();
             String answer = b.ask(service, 77, 77, 77, 77, 77, 77);
             int code = known(service) ? service == 54 ? 127 : 19 : 17;
             Bench.due("service " + service, answer, "127 " + service + " " + code);
@@ -184,10 +184,10 @@ public final class RequestTest {
     }
 
     private static void reading() {
-        Bench b = new Bench();
         for (int what = 3; what < 256; what++) {
-            b.askDue("127 34 49", 34, what);
+            new Bench().askDue("127 34 49", 34, what);
         }
+        Bench b = new Bench();
         b.unlock();
         b.release(1, 201, 202, 203, 204, 205, 206, 207, 208, 209);
         b.askDue("98 0 0", 34, 0);
@@ -205,20 +205,20 @@ public final class RequestTest {
         b.askDue("110 1", 46, 1, 13);
         b.askDue("98 1 13", 34, 1);
         for (int what = 0; what < 256; what++) {
-            if (what != 1) {
-                b.askDue("127 46 49", 46, what, 77);
-            }
+            Bench other = new Bench();
+            other.unlock();
+            other.askDue(what == 1 ? "110 1" : "127 46 49", 46, what, 77);
+            other.askDue(what == 1 ? "98 1 77" : "98 1 0", 34, 1);
         }
-        b.askDue("98 1 13", 34, 1);
         b.unit.cut(0);
         b.askDue("110 1", 46, 1, 14);
         Bench.due("the cut is still ordered", b.unit.state(4), 1);
     }
 
     private static void ranges() {
-        Bench b = new Bench();
-        b.unlock();
         for (int value = 0; value < 256; value++) {
+            Bench b = new Bench();
+            b.unlock();
             if (value < 1 || value > 3) {
                 b.askDue("127 49 49", 49, 1, value, 1);
             }

@@ -39,6 +39,12 @@ public final class TickTest {
         b.frame(16, 8, 200);
         b.unit.tick();
         Bench.due("ticks before the first frame don't count", b.unit.state(6), 2);
+        b.frame(16, 14, 200);
+        b.frame(33);
+        b.ticks(3);
+        Bench.due("a single byte is wanted", b.unit.state(6), 1);
+        b.unit.tick();
+        Bench.due("a single byte was wanted", b.unit.state(6), 0);
     }
 
     private static void answersAreDropped() {
