@@ -4,17 +4,50 @@ import java.util.List;
 /** A unit under test, spoken to in bytes, and a count of the answers that were wrong. */
 final class Bench {
     private static int wrong = 0;
+    private static String sentence = "";
 
     /** The sum of the image 0, 1, .., 31, as the document's own test has it. */
     static final int FIRST_SUM = 0x23B3;
 
-    final TwinLoader unit = new TwinLoader();
+    /** What state(0) to state(8) answer after the first booting. */
+    static final int[] BOOTED = {0, 1, 0, -1, 0, -1, 0, 0, 0};
+
+    final Unit unit = new Unit();
+
+    /** A unit in session 2, still locked. */
+    static Bench inSessionTwo() {
+        Bench b = new Bench();
+        b.askDue("80 2", 16, 2);
+        return b;
+    }
+
+    /** A unit in session 2, unlocked. */
+    static Bench unlocked() {
+        Bench b = new Bench();
+        b.unlock();
+        return b;
+    }
+
+    /** A unit whose slot 1 runs, with serial 2, in session 2 and unlocked. */
+    static Bench onSlotOne() {
+        Bench b = unlocked();
+        b.release(1, 5, 6);
+        b.unit.restart();
+        due("the slot that runs", b.unit.state(0), 1);
+        b.unlock();
+        return b;
+    }
+
+    /**
+     * Begins the test of these words of the document, which a wrong answer then
+     * names. SentencesTest holds them against the document.
+     */
+    static void says(String words) {
+        sentence = words;
+    }
 
     static void due(String what, long got, long want) {
-        if (got != want) {
-            wrong++;
-            System.out.println(what + " answered " + got + ", due is " + want);
-        }
+        due(what, Long.toString(got), Long.toString(want));
     }
 
     static void due(String what, boolean got, boolean want) {
@@ -25,6 +58,7 @@ final class Bench {
         if (!got.equals(want)) {
             wrong++;
             System.out.println(what + " answered [" + got + "], due is [" + want + "]");
+            System.out.println("    for: " + sentence);
         }
     }
 
@@ -91,6 +125,13 @@ final class Bench {
         return readAnswer();
     }
 
+    /** What state(0) and those behind it answer. */
+    void statesDue(String when, int... want) {
+        for (int what = 0; what < want.length; what++) {
+            due("state(" + what + ") " + when, unit.state(what), want[what]);
+        }
+    }
+
     void askDue(String want, int... request) {
         due("the request " + text(request), ask(request), want);
     }
@@ -142,10 +183,23 @@ final class Bench {
     /** Goes to session 2 and unlocks. */
     void unlock() {
         askDue("80 2", 16, 2);
-        String answer = ask(39, 1);
-        int seed = Integer.parseInt(answer.substring(answer.lastIndexOf(' ') + 1));
-        askDue("103 2", 39, 2, 5 * seed + 3 & 255);
+        askDue("103 2", 39, 2, keyFor(seed()));
         empty();
+    }
+
+    /** A new seed; -1 if it is refused. */
+    int seed() {
+        String answer = ask(39, 1);
+        return answer.startsWith("103 1 ") ? Integer.parseInt(answer.substring(6)) : -1;
+    }
+
+    static int keyFor(int seed) {
+        return (5 * seed + 3) % 256;
+    }
+
+    /** Has a seed given and answers it by a wrong key. */
+    void wrongKeyDue(String want) {
+        askDue(want, 39, 2, keyFor(seed()) ^ 1);
     }
 
     /** Erases a slot and loads an image (up to 32 bytes) into it. */

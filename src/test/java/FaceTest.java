@@ -31,6 +31,7 @@ public final class FaceTest {
                 "public int TwinLoader.flash(int)",
                 "public int TwinLoader.word(int)",
                 "public int TwinLoader.state(int)"))));
+        Bench.says("The constants: `NONE = -1`: Nothing there.");
         Bench.due("NONE", TwinLoader.NONE, -1);
         Bench.end();
     }

@@ -1,37 +1,62 @@
 /** Promise 3: the bytes of the first frame that waits. */
 public final class PeekTest {
     public static void main(String[] args) {
-        Bench b = new Bench();
-        for (int k = -2; k < 10; k++) {
-            Bench.due("peek(" + k + ") of nothing", b.unit.peek(k), TwinLoader.NONE);
-        }
-        b.frame(2, 34, 2);
-        b.frame(48, 0);
-        int[] want = {16, 10, 98, 2, 0, 1, 2, 3};
-        for (int round = 0; round < 2; round++) {
-            for (int k = 0; k < 8; k++) {
-                Bench.due("peek(" + k + ")", b.unit.peek(k), want[k]);
-            }
-        }
-        int[] wrong = {-1, 8, 9, 16, 255, -8, Integer.MIN_VALUE, Integer.MAX_VALUE};
-        for (int k : wrong) {
-            Bench.due("peek(" + k + ")", b.unit.peek(k), TwinLoader.NONE);
-        }
-        b.unit.take();
-        int[] next = {33, 4, 5, 6, 7, 0, 0, 0};
-        for (int k = 0; k < 8; k++) {
-            Bench.due("peek(" + k + ") of the next one", b.unit.peek(k), next[k]);
-        }
-        b.unit.take();
-        Bench.due("peek(0) after the last one", b.unit.peek(0), TwinLoader.NONE);
+        bytesOfTheFirstFrame();
+        bytesThatAreNotThere();
+        noFrameWaits();
         greatBytes();
         Bench.end();
     }
 
-    private static void greatBytes() {
+    private static void bytesDue(Bench b, int... want) {
+        for (int k = 0; k < 8; k++) {
+            Bench.due("peek(" + k + ")", b.unit.peek(k), want[k]);
+        }
+    }
+
+    private static void bytesOfTheFirstFrame() {
+        Bench.says("Byte k (0 .. 7) of the first frame that waits; NONE if there is none.");
         Bench b = new Bench();
-        b.send(255);
-        Bench.due("peek(2), a byte of 255", b.unit.peek(2), 255);
-        Bench.due("what is behind the bytes", b.taken(), "3 127 255 17 0 0 0 0");
+        b.frame(2, 34, 2);
+        b.frame(48, 0);
+        bytesDue(b, 16, 10, 98, 2, 0, 1, 2, 3);
+        bytesDue(b, 16, 10, 98, 2, 0, 1, 2, 3);
+        Bench.due("frames that wait, after looking", b.frame(0), 2);
+        b.unit.take();
+        bytesDue(b, 33, 4, 5, 6, 7, 0, 0, 0);
+    }
+
+    private static void bytesThatAreNotThere() {
+        Bench.says("Byte k (0 .. 7) of the first frame that waits; NONE if there is none.");
+        Bench b = new Bench();
+        b.frame(2, 34, 2);
+        b.frame(48, 0);
+        int[] wrong = {-1, -2, 8, 9, 15, 16, 255, -8, Integer.MIN_VALUE, Integer.MAX_VALUE};
+        for (int k : wrong) {
+            Bench.due("peek(" + k + ")", b.unit.peek(k), TwinLoader.NONE);
+        }
+    }
+
+    private static void noFrameWaits() {
+        Bench.says("Byte k (0 .. 7) of the first frame that waits; NONE if there is none.");
+        Bench b = new Bench();
+        for (int k = -2; k < 10; k++) {
+            Bench.due("peek(" + k + ") at first", b.unit.peek(k), TwinLoader.NONE);
+        }
+        b.frame(2, 62, 0);
+        b.unit.take();
+        for (int k = -2; k < 10; k++) {
+            Bench.due("peek(" + k + ") after the last one", b.unit.peek(k), TwinLoader.NONE);
+        }
+    }
+
+    private static void greatBytes() {
+        Bench.says("Byte k (0 .. 7) of the first frame that waits; NONE if there is none.");
+        Bench b = new Bench();
+        for (int service = 128; service < 256; service += 127) {
+            b.send(service);
+            Bench.due("peek(2), a byte of " + service, b.unit.peek(2), service);
+            b.unit.take();
+        }
     }
 }

@@ -1,110 +1,270 @@
-/** Promise 2: erasing, checking and releasing slots, and which one boots. */
+/** REQUESTS 49: erasing, checking and releasing slots. */
 public final class SlotTest {
     public static void main(String[] args) {
-        erasing();
+        routinesOutOfRange();
+        slotsOutOfRange();
+        rangeBeforeTheSlotThatRuns();
         erasingTheSlotThatRuns();
-        checking();
+        erasingForgetsTheCheckedSlot();
+        erasing();
+        erasingLeavesADownload();
+        checkingSums();
+        checkingTheSlotThatRuns();
+        checkedAndNoOther();
+        notCheckedAnyMore();
         checkingForgetsOnlyItsOwnSlot();
-        releasing();
+        releasingTheSlotThatRuns();
         releasingUnchecked();
-        releasingWithoutErasing();
-        serials();
-        serialsWrapAround();
-        slotsAlike();
-        badSlotsDoNotRun();
-        sums();
+        releasing();
+        serialsOfGoodSlotsOnly();
+        theGreatestSerialIsItsOwn();
+        serialsModulo();
+        writtenNotErased();
+        itRunsByTheNextBooting();
         Bench.end();
     }
 
-    private static Bench unlocked() {
-        Bench b = new Bench();
-        b.unlock();
-        return b;
+    private static void routinesOutOfRange() {
+        Bench.says("49 1 r s, and two bytes more if r is 2: 49 if r isn't 1 .. 3, or s isn't 0 or 1.");
+        for (int routine = 0; routine < 256; routine++) {
+            Bench b = Bench.unlocked();
+            String answer = routine == 2 ? b.ask(49, 1, 2, 1, 0, 0) : b.ask(49, 1, routine, 1);
+            boolean refused = answer.equals("127 49 49");
+            Bench.due("49 1 " + routine + " 1 is refused by 49", refused, routine < 1 || routine > 3);
+        }
     }
 
-    private static void erasing() {
-        Bench b = unlocked();
-        b.release(1, 1, 2, 3, 4, 5, 6, 7, 8, 9, 10, 11, 12, 13, 14, 15, 16, 17, 18, 19, 20);
-        Bench.due("the slot checked", b.unit.state(5), 1);
-        String slotZero = b.flash(0, 48);
-        b.askDue("113 1 1", 49, 1, 1, 1);
-        Bench.due("slot 1", b.flash(48, 96), Bench.repeated(255, 48));
-        Bench.due("slot 0", b.flash(0, 48), slotZero);
-        Bench.due("the slot checked", b.unit.state(5), TwinLoader.NONE);
-        b.askDue("116 8", 52, 1, 4);
-        b.askDue("113 1 1", 49, 1, 1, 1);
-        Bench.due("the download goes on", b.unit.state(3), 4);
-        b.askDue("118 1", 54, 1, 5);
+    private static void slotsOutOfRange() {
+        Bench.says("49 1 r s, and two bytes more if r is 2: 49 if r isn't 1 .. 3, or s isn't 0 or 1.");
+        for (int slot = 0; slot < 256; slot++) {
+            Bench b = Bench.unlocked();
+            b.check(1);
+            Bench.due("49 1 3 " + slot + " is refused by 49", b.ask(49, 1, 3, slot).equals("127 49 49"), slot > 1);
+            Bench.due("49 1 2 " + slot + " is refused by 49", b.ask(49, 1, 2, slot, 0, 0).equals("127 49 49"), slot > 1);
+            Bench.due("49 1 1 " + slot + " is refused by 49", b.ask(49, 1, 1, slot).equals("127 49 49"), slot > 1);
+        }
+    }
+
+    private static void rangeBeforeTheSlotThatRuns() {
+        Bench.says("49 1 r s, and two bytes more if r is 2: 49 if r isn't 1 .. 3, or s isn't 0 or 1.");
+        Bench b = Bench.unlocked();
+        b.askDue("127 49 49", 49, 1, 0, 0);
+        b.askDue("127 49 49", 49, 1, 4, 0);
+        b.askDue("127 49 34", 49, 1, 1, 0);
+        b.askDue("127 49 34", 49, 1, 3, 0);
     }
 
     private static void erasingTheSlotThatRuns() {
-        Bench b = unlocked();
+        Bench.says("r 1: 34 if slot s runs;");
+        Bench b = Bench.unlocked();
         b.check(1);
+        String slotZero = b.flash(0, 48);
         b.askDue("127 49 34", 49, 1, 1, 0);
-        Bench.due("slot 0", b.flash(0, 4), "0 1 2 3");
-        Bench.due("the slot checked", b.unit.state(5), 1);
-        b.release(1, 60);
-        b.unit.restart();
-        b.unlock();
+        Bench.due("slot 0", b.flash(0, 48), slotZero);
+        Bench.due("the slot that is checked", b.unit.state(5), 1);
+        b = Bench.onSlotOne();
         b.askDue("127 49 34", 49, 1, 1, 1);
+        Bench.due("slot 1", b.flash(48, 51), "5 6 255");
         b.askDue("113 1 1", 49, 1, 1, 0);
         Bench.due("slot 0", b.flash(0, 48), Bench.repeated(255, 48));
-        Bench.due("slot 1", b.unit.flash(48), 60);
     }
 
-    private static void checking() {
-        Bench b = unlocked();
-        b.askDue("113 1 2 1", 49, 1, 2, 0, Bench.FIRST_SUM >> 8, Bench.FIRST_SUM & 255);
-        Bench.due("the slot checked", b.unit.state(5), 0);
-        b.askDue("113 1 2 0", 49, 1, 2, 0, Bench.FIRST_SUM & 255, Bench.FIRST_SUM >> 8);
-        Bench.due("the slot checked", b.unit.state(5), TwinLoader.NONE);
-        b.check(1);
-        Bench.due("the slot checked", b.unit.state(5), 1);
+    private static void erasingForgetsTheCheckedSlot() {
+        Bench.says("no slot is checked any more; its sectors are erased,"
+                + " first the third one, then the first one, then the second one; 113 1 1.");
+        for (int slot = 0; slot < 2; slot++) {
+            Bench b = Bench.unlocked();
+            b.check(slot);
+            Bench.due("the slot that is checked", b.unit.state(5), slot);
+            b.askDue("113 1 1", 49, 1, 1, 1);
+            Bench.due("the slot that is checked after erasing slot 1", b.unit.state(5), TwinLoader.NONE);
+            b.askDue("127 49 34", 49, 1, 3, 1);
+        }
+    }
+
+    private static void erasing() {
+        Bench.says("no slot is checked any more; its sectors are erased,"
+                + " first the third one, then the first one, then the second one; 113 1 1.");
+        Bench b = Bench.unlocked();
+        int[] image = new int[32];
+        b.release(1, image);
+        String slotZero = b.flash(0, 48);
+        b.unit.cut(-1);
+        b.askDue("", 49, 1, 1, 1);
+        Bench.due("the third sector, which is the first one to go", b.flash(80, 84), Bench.repeated(255, 4));
+        Bench.due("the first and the second one", b.flash(48, 80), Bench.repeated(0, 32));
+        b.unlock();
+        b.askDue("113 1 1", 49, 1, 1, 1);
+        Bench.due("slot 1", b.flash(48, 96), Bench.repeated(255, 48));
+        Bench.due("slot 0", b.flash(0, 48), slotZero);
+    }
+
+    private static void erasingLeavesADownload() {
+        Bench.says("no slot is checked any more; its sectors are erased,"
+                + " first the third one, then the first one, then the second one; 113 1 1.");
+        Bench b = Bench.unlocked();
+        b.askDue("116 8", 52, 1, 4);
+        b.askDue("118 1", 54, 1, 5);
+        b.askDue("113 1 1", 49, 1, 1, 1);
+        Bench.due("bytes still to come", b.unit.state(3), 3);
+        b.askDue("118 2", 54, 2, 6);
+        Bench.due("the image", b.flash(48, 51), "255 6 255");
+    }
+
+    private static void checkingSums() {
+        Bench.says("r 2, h l: 113 1 2 c: c is 1 if the sum of the image of slot s is 256 h + l, else 0;");
+        Bench b = Bench.unlocked();
+        b.askDue("113 1 2 1", 49, 1, 2, 1, 0x75, 0xF8);
+        b.askDue("113 1 2 0", 49, 1, 2, 1, 0xF8, 0x75);
+        for (int bit = 0; bit < 16; bit++) {
+            int sum = 0x75F8 ^ 1 << bit;
+            b.askDue("113 1 2 0", 49, 1, 2, 1, sum / 256, sum % 256);
+        }
+        b = Bench.unlocked();
+        b.load(1, 9, 8, 7);
         int sum = b.sumOfSlot(1);
-        b.askDue("113 1 2 0", 49, 1, 2, 1, sum >> 8, sum + 1 & 255);
-        Bench.due("the slot checked", b.unit.state(5), TwinLoader.NONE);
-        b.askDue("113 1 2 0", 49, 1, 2, 1, (sum >> 8) + 1 & 255, sum & 255);
+        b.askDue("113 1 2 0", 49, 1, 2, 1, 0x75, 0xF8);
+        b.askDue("113 1 2 1", 49, 1, 2, 1, sum / 256, sum % 256);
+        b.askDue("113 1 2 0", 49, 1, 2, 0, sum / 256, sum % 256);
+    }
+
+    private static void checkingTheSlotThatRuns() {
+        Bench.says("r 2, h l: 113 1 2 c: c is 1 if the sum of the image of slot s is 256 h + l, else 0;");
+        Bench b = Bench.unlocked();
+        b.askDue("113 1 2 1", 49, 1, 2, 0, 35, 179);
+        Bench.due("the slot that is checked", b.unit.state(5), 0);
+        b.askDue("113 1 2 0", 49, 1, 2, 0, 35, 178);
+        Bench.due("the slot that is checked", b.unit.state(5), TwinLoader.NONE);
+    }
+
+    private static void checkedAndNoOther() {
+        Bench.says("with 1 slot s (and no other) is CHECKED,");
+        Bench b = Bench.unlocked();
+        b.check(1);
+        Bench.due("the slot that is checked", b.unit.state(5), 1);
+        b.check(1);
+        Bench.due("the slot that is checked", b.unit.state(5), 1);
+        b.check(0);
+        Bench.due("the slot that is checked", b.unit.state(5), 0);
+        b.askDue("127 49 34", 49, 1, 3, 1);
+        b.check(1);
+        Bench.due("the slot that is checked", b.unit.state(5), 1);
+        b.askDue("113 1 3", 49, 1, 3, 1);
+    }
+
+    private static void notCheckedAnyMore() {
+        Bench.says("with 0 it isn't any more.");
+        for (int slot = 0; slot < 2; slot++) {
+            Bench b = Bench.unlocked();
+            b.check(slot);
+            b.askDue("113 1 2 0", 49, 1, 2, slot, 0, 0);
+            Bench.due("the slot that is checked", b.unit.state(5), TwinLoader.NONE);
+            b.askDue("113 1 2 0", 49, 1, 2, slot, 0, 0);
+            Bench.due("the slot that is checked", b.unit.state(5), TwinLoader.NONE);
+            b.askDue("127 49 34", 49, 1, 3, slot);
+        }
     }
 
     private static void checkingForgetsOnlyItsOwnSlot() {
-        Bench b = unlocked();
-        b.check(1);
-        b.askDue("113 1 2 0", 49, 1, 2, 0, 0, 0);
-        Bench.due("the slot checked", b.unit.state(5), 1);
-        b.check(0);
-        Bench.due("the slot checked", b.unit.state(5), 0);
-        b.askDue("113 1 2 0", 49, 1, 2, 1, 0, 0);
-        Bench.due("the slot checked", b.unit.state(5), 0);
-        b.askDue("127 49 34", 49, 1, 3, 1);
+        Bench.says("with 0 it isn't any more.");
+        for (int slot = 0; slot < 2; slot++) {
+            Bench b = Bench.unlocked();
+            b.check(slot);
+            b.askDue("113 1 2 0", 49, 1, 2, 1 - slot, 0, 0);
+            Bench.due("the slot that is checked", b.unit.state(5), slot);
+        }
     }
 
-    private static void releasing() {
-        Bench b = unlocked();
-        b.release(1, 9, 8, 7);
-        int sum = b.sumOfSlot(1);
-        Bench.due("the header", b.flash(80, 96),
-                "0 2 " + (sum >> 8) + " " + (sum & 255) + " " + Bench.repeated(255, 12));
-        Bench.due("the slot that runs", b.unit.state(0), 0);
-        Bench.due("the slot checked", b.unit.state(5), 1);
-        b.askDue("98 0 0", 34, 0);
-        b.askDue("81 1", 17, 1);
-        Bench.due("the slot that runs", b.unit.state(0), 1);
-        b.askDue("98 0 1", 34, 0);
+    private static void releasingTheSlotThatRuns() {
+        Bench.says("r 3: 34 if slot s runs or isn't checked;");
+        Bench b = Bench.unlocked();
+        b.check(0);
+        b.askDue("127 49 34", 49, 1, 3, 0);
+        Bench.due("the header of slot 0", b.flash(32, 36), "0 1 35 179");
+        b = Bench.onSlotOne();
+        String header = b.flash(80, 96);
+        b.check(1);
+        b.askDue("127 49 34", 49, 1, 3, 1);
+        Bench.due("the header of slot 1", b.flash(80, 96), header);
     }
 
     private static void releasingUnchecked() {
-        Bench b = unlocked();
+        Bench.says("r 3: 34 if slot s runs or isn't checked;");
+        Bench b = Bench.unlocked();
+        b.askDue("127 49 34", 49, 1, 3, 1);
         b.load(1, 9, 8, 7);
         b.askDue("127 49 34", 49, 1, 3, 1);
         b.check(0);
         b.askDue("127 49 34", 49, 1, 3, 1);
-        b.askDue("127 49 34", 49, 1, 3, 0);
-        Bench.due("the header", b.flash(80, 84), "255 255 255 255");
-        Bench.due("the header of slot 0", b.flash(32, 34), "0 1");
+        Bench.due("the header", b.flash(80, 84), Bench.repeated(255, 4));
+        b.check(1);
+        b.askDue("113 1 3", 49, 1, 3, 1);
     }
 
-    private static void releasingWithoutErasing() {
-        Bench b = unlocked();
+    private static void releasing() {
+        Bench.says("into its header are written: the serial");
+        Bench b = Bench.unlocked();
+        b.release(1, 9, 8, 7);
+        int sum = b.sumOfSlot(1);
+        Bench.due("the header", b.flash(80, 96),
+                "0 2 " + sum / 256 + " " + sum % 256 + " " + Bench.repeated(255, 12));
+        Bench.due("the image", b.flash(48, 80), "9 8 7 " + Bench.repeated(255, 29));
+        Bench.due("the header of slot 0", b.flash(32, 36), "0 1 35 179");
+        Bench.due("the slot that is checked", b.unit.state(5), 1);
+    }
+
+    private static void serialsOfGoodSlotsOnly() {
+        Bench.says("(1 more than the greatest one of good slots, modulo 256;");
+        Bench b = Bench.unlocked();
+        b.release(1, 5, 6);
+        b.unit.cut(0x0000FF01);
+        b.askDue("", 49, 1, 1, 1);
+        Bench.due("the header of slot 1, which isn't good", b.flash(80, 82), "1 255");
+        b.unlock();
+        b.check(1);
+        b.askDue("113 1 3", 49, 1, 3, 1);
+        Bench.due("the serial, one more than that of slot 0", b.unit.flash(81), 2);
+    }
+
+    /** The slot that is released once more may be the good one with the greatest serial. */
+    private static void theGreatestSerialIsItsOwn() {
+        Bench.says("(1 more than the greatest one of good slots, modulo 256;");
+        Bench b = Bench.unlocked();
+        b.release(1, 5, 6);
+        b.unit.cut(0x00000400);
+        b.askDue("", 49, 1, 1, 1);
+        Bench.due("the serial of slot 1", b.unit.flash(81), 6);
+        Bench.due("the slot that runs", b.unit.state(0), 1);
+        b.unlock();
+        b.release(0, 9);
+        Bench.due("the serial of slot 0", b.unit.flash(33), 7);
+        b.askDue("113 1 3", 49, 1, 3, 0);
+        Bench.due("the serial of slot 0, 8 being written over 7", b.unit.flash(33), 0);
+        b.askDue("113 1 1", 49, 1, 1, 0);
+        b.check(0);
+        b.askDue("113 1 3", 49, 1, 3, 0);
+        Bench.due("the serial of slot 0, when it was erased", b.unit.flash(33), 7);
+    }
+
+    /** Only a torn erasing of a good slot's header makes a serial so great. */
+    private static void serialsModulo() {
+        Bench.says("(1 more than the greatest one of good slots, modulo 256;");
+        for (int serial = 253; serial <= 255; serial += 2) {
+            Bench b = Bench.onSlotOne();
+            b.unit.cut(serial << 8);
+            b.askDue("", 49, 1, 1, 0);
+            Bench.due("the serial of slot 0", b.unit.flash(33), serial);
+            Bench.due("the slot that runs", b.unit.state(0), 0);
+            b.unlock();
+            b.release(1, 5, 6);
+            Bench.due("the serial after " + serial, b.unit.flash(81), (serial + 1) % 256);
+            Bench.due("the sum behind it", b.unit.word(80) & 0xFFFF, b.sumOfSlot(1));
+        }
+    }
+
+    private static void writtenNotErased() {
+        Bench.says("and the sum of its image, in one writing, then the mark, 0; 113 1 3.");
+        Bench b = Bench.unlocked();
         b.release(1, 9, 8, 7);
         int old = b.sumOfSlot(1);
         b.askDue("116 8", 52, 1, 1);
@@ -112,109 +272,19 @@ public final class SlotTest {
         b.check(1);
         int sum = b.sumOfSlot(1) & old;
         b.askDue("113 1 3", 49, 1, 3, 1);
-        Bench.due("the header", b.flash(80, 84), "0 2 " + (sum >> 8) + " " + (sum & 255));
+        Bench.due("the header", b.flash(80, 84), "0 2 " + sum / 256 + " " + sum % 256);
         b.unit.restart();
         Bench.due("the slot that runs", b.unit.state(0), 0);
     }
 
-    private static void serials() {
-        Bench b = new Bench();
-        for (int serial = 2; serial <= 5; serial++) {
-            int slot = (serial + 1) % 2;
-            b.unlock();
-            b.release(slot, serial, 100);
-            Bench.due("the serial", b.unit.flash(48 * slot + 33), serial);
-            b.unit.restart();
-            Bench.due("the slot that runs", b.unit.state(0), slot);
-        }
-        b = unlocked();
-        b.release(1, 5, 6);
-        b.release(1, 7, 8);
-        Bench.due("the serial of a slot released twice", b.unit.flash(81), 2);
-        b.askDue("113 1 3", 49, 1, 3, 1);
-        Bench.due("the serial 3 written over 2", b.unit.flash(81), 2);
-    }
-
-    /** Only a torn erasing of a good slot's header makes a serial so great: its mark and sum stay. */
-    private static Bench withSerial255() {
-        Bench b = unlocked();
-        b.release(1, 5, 6);
-        b.unit.restart();
-        b.unlock();
-        b.unit.cut(0x0000FF00);
-        b.askDue("", 49, 1, 1, 0);
-        Bench.due("the header of slot 0", b.flash(32, 36), "0 255 35 179");
+    private static void itRunsByTheNextBooting() {
+        Bench.says("(It may run by the next booting.)");
+        Bench b = Bench.unlocked();
+        b.release(1, 9, 8, 7);
         Bench.due("the slot that runs", b.unit.state(0), 0);
-        return b;
-    }
-
-    private static void serialsWrapAround() {
-        Bench b = withSerial255();
-        b.unlock();
-        b.release(1, 5, 6);
-        Bench.due("the serial after 255", b.unit.flash(81), 0);
-        b.unit.restart();
-        Bench.due("255 is greater than 0", b.unit.state(0), 0);
-    }
-
-    private static void slotsAlike() {
-        Bench b = unlocked();
-        b.release(1, 5, 6);
-        b.unit.restart();
-        b.unlock();
-        b.release(0, 7, 8);
-        b.unit.restart();
-        Bench.due("the slot with serial 3", b.unit.state(0), 0);
-        b.unlock();
-        b.unit.cut(0x00000100);
-        b.askDue("", 49, 1, 1, 1);
-        Bench.due("the header of slot 1", b.flash(80, 82), "0 3");
-        Bench.due("slot 0 of two alike", b.unit.state(0), 0);
-        b.unlock();
-        b.unit.cut(0x00000400);
-        b.askDue("", 49, 1, 1, 1);
-        Bench.due("the header of slot 1", b.flash(80, 82), "0 7");
-        Bench.due("slot 1 with a greater serial", b.unit.state(0), 1);
-    }
-
-    private static void badSlotsDoNotRun() {
-        for (int mark = 0; mark < 256; mark++) {
-            Bench b = unlocked();
-            b.release(1, 5, 6);
-            b.unit.cut(mark);
-            b.askDue("", 49, 1, 1, 1);
-            Bench.due("the mark", b.unit.flash(80), mark);
-            Bench.due("the slot that runs with mark " + mark, b.unit.state(0), mark == 0 ? 1 : 0);
-        }
-        for (int bit = 0; bit < 16; bit++) {
-            Bench b = unlocked();
-            b.release(1, 5, 6);
-            int old = b.unit.word(80);
-            b.unit.cut(0x10000 << bit);
-            b.askDue("", 49, 1, 1, 1);
-            boolean same = b.unit.word(80) == old;
-            Bench.due("the slot that runs", b.unit.state(0), same ? 1 : 0);
-        }
-        Bench b = unlocked();
-        b.release(1, 5, 6);
-        b.askDue("116 8", 52, 1, 1);
-        b.askDue("118 1", 54, 1, 4);
-        b.unit.restart();
-        Bench.due("the slot that runs when the image was changed", b.unit.state(0), 0);
-    }
-
-    private static void sums() {
-        for (int seed = 1; seed < 40; seed++) {
-            Bench b = unlocked();
-            int[] image = new int[32];
-            for (int k = 0; k < 32; k++) {
-                image[k] = seed * (k + 3) * (k + seed) >> 2 & 255;
-            }
-            b.load(1, image);
-            int sum = Bench.sum(image);
-            b.askDue("113 1 2 1", 49, 1, 2, 1, sum >> 8, sum & 255);
-            b.askDue("113 1 3", 49, 1, 3, 1);
-            Bench.due("the sum in the header", b.unit.word(80) & 0xFFFF, sum);
-        }
+        b.askDue("127 49 34", 49, 1, 1, 0);
+        b.askDue("81 1", 17, 1);
+        Bench.due("the slot that runs after 17 1", b.unit.state(0), 1);
+        b.askDue("98 0 1", 34, 0);
     }
 }
