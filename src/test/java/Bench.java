@@ -58,7 +58,7 @@ final class Bench {
         if (!got.equals(want)) {
             wrong++;
             System.out.println(what + " answered [" + got + "], due is [" + want + "]");
-            System.out.println("    for: " + sentence);
+            System.out.print(sentence.isEmpty() ? "" : "    for: " + sentence + "\n");
         }
     }
 
