@@ -134,6 +134,10 @@ public final class RequestTest {
         b.askDue("98 2 0 1 2 3 4 5 6 7", 34, 2);
         b.unit.restart();
         b.askDue("98 2 201 202 203 204 205 206 207 208", 34, 2);
+        b.unlock();
+        b.release(0, 101, 102, 103, 104, 105, 106, 107, 108, 109);
+        b.unit.restart();
+        b.askDue("98 2 101 102 103 104 105 106 107 108", 34, 2);
     }
 
     private static void storingElsewhere() {
