@@ -9,7 +9,8 @@ import java.util.regex.Pattern;
 
 /**
  * Holds the words that the tests say they test against the document: each of
- * them stands in it, and no part of its terms and promises is left without one.
+ * them stands in it, and no part of it, from its first line to what isn't
+ * promised, is left without one.
  */
 public final class SentencesTest {
     private static final Path DOCUMENT = Path.of("../shared/DOC.md");
@@ -33,12 +34,11 @@ public final class SentencesTest {
         Bench.end();
     }
 
-    /** The terms and promises as one line, without headings, fences and signatures. */
+    /** What is promised as one line, without headings, fences and the signatures, which repeat the face. */
     private static String promisesOf(String document) {
-        int from = document.indexOf("## Terms");
-        int to = document.indexOf("## Not promised");
-        Bench.due("whether the document has terms", from >= 0 && to > from, true);
-        return document.substring(Math.max(0, from), to < 0 ? document.length() : to)
+        int end = document.indexOf("## Not promised");
+        Bench.due("whether the document tells where it promises nothing more", end > 0, true);
+        return document.substring(0, end < 0 ? document.length() : end)
                 .replaceAll("(?m)^#.*$", " ")
                 .replaceAll("(?m)^```.*$", " ")
                 .replaceAll("(?m)^`[^`]*`: ", " ")
