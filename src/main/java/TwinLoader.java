@@ -85,7 +85,6 @@ public final class TwinLoader {
         boot();
     }
 
-    /** A frame comes; how many frames wait to be taken then. */
     public int frame(int front, int rest) {
         int kind = byteOf(front, rest, 0);
         if (kind >= GO_ON && kind <= DROP) {
@@ -101,7 +100,6 @@ public final class TwinLoader {
         return row.count;
     }
 
-    /** Byte k of the first frame that waits. */
     public int peek(int k) {
         if (k < 0 || k >= BYTES_OF_FRAME || row.count == 0) {
             return NONE;
@@ -109,7 +107,6 @@ public final class TwinLoader {
         return row.byteOfFirst(k);
     }
 
-    /** Takes the first frame that waits. */
     public boolean take() {
         if (row.count == 0) {
             return false;
@@ -118,7 +115,6 @@ public final class TwinLoader {
         return true;
     }
 
-    /** A tick. */
     public void tick() {
         receiver.age();
         sender.age();
@@ -130,22 +126,18 @@ public final class TwinLoader {
         lock.shortenDelay();
     }
 
-    /** Orders a power cut. */
     public void cut(int number) {
         memory.orderCut(number);
     }
 
-    /** The unit boots. */
     public void restart() {
         bootAfresh();
     }
 
-    /** A byte of the flash. */
     public int flash(int at) {
         return memory.has(at, 1) ? memory.cells[at] : NONE;
     }
 
-    /** Four bytes of the flash as one number. */
     public int word(int at) {
         if (!memory.has(at, 4)) {
             return 0;
@@ -157,7 +149,6 @@ public final class TwinLoader {
         return number;
     }
 
-    /** One of the numbers that tell how the unit stands. */
     public int state(int what) {
         switch (what) {
             case 0:
@@ -183,12 +174,12 @@ public final class TwinLoader {
         }
     }
 
-    /** Byte k (0 .. 7) of a frame. */
     private static int byteOf(int front, int rest, int k) {
         int half = k < 4 ? front : rest;
         return (half >>> (24 - 8 * (k & 3))) & 255;
     }
 
+    /** Leaves the row alone: 17 1 boots while its answer waits to be taken. */
     private void boot() {
         running = memory.bestSlot();
         session = PLAIN_SESSION;
@@ -226,6 +217,7 @@ public final class TwinLoader {
     }
 
     private void workOnRequest() {
+        // Before any refusal, since refused requests keep the session on too.
         quietTicks = 0;
         int service = receiver.at(0);
         sender.begin(service + POSITIVE);
@@ -332,7 +324,6 @@ public final class TwinLoader {
         }
     }
 
-    /** Does what a request asks that no common code refuses. */
     private int serve(int service) {
         switch (service) {
             case CHANGE_SESSION:
@@ -365,6 +356,7 @@ public final class TwinLoader {
     }
 
     private int giveSeed() {
+        // Before the delay is looked at, since a seed isn't open behind any such request.
         lock.takeOpenSeed();
         if (lock.delay != 0) {
             return DELAYED;
@@ -473,6 +465,7 @@ public final class TwinLoader {
             return OUT_OF_RANGE;
         }
         int at = Memory.imageOf(download.slot) + download.came;
+        // Before it is compared, since a block has come even if the flash can't hold it.
         download.addBlock(size);
         if (!memory.write(at, receiver.bytes, 2, size)) {
             return TORN;
@@ -488,7 +481,10 @@ public final class TwinLoader {
         return DONE;
     }
 
-    /** The flash, and the power cut that may tear a change of it. */
+    /**
+     * The flash, and the power cut that may tear a change of it. Indexes are
+     * looked at once more here, though no request leads beyond the flash.
+     */
     private static final class Memory {
         private static final int SIZE = 96;
         private static final int SECTOR = 16;
@@ -556,6 +552,7 @@ public final class TwinLoader {
         }
 
         private void change(int at, int k, int aim) {
+            // The number has bits for four bytes; those behind them begin with its lowest again.
             int changing = cutOrdered ? cutNumber >>> (8 * (k & 3)) : 255;
             cells[at] ^= (cells[at] ^ aim) & changing;
         }
@@ -578,7 +575,6 @@ public final class TwinLoader {
             return true;
         }
 
-        /** The sum of a slot's image. */
         int sumOf(int slot) {
             int start = slot == 1 ? SLOT : 0;
             int sum = 65535;
@@ -880,7 +876,7 @@ public final class TwinLoader {
             return seed;
         }
 
-        /** Whether it was the last one that is borne without a delay. */
+        /** Whether a delay begins by it. */
         boolean countWrongKey() {
             wrongKeys++;
             if (wrongKeys < WRONG_KEY_LIMIT) {
